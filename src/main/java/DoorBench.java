@@ -577,8 +577,7 @@ public final class DoorBench {
         }
 
         private void anotherPart() {
-            boolean canGoOn = premises == 0 || ends == 0 || ties < MOST_TIES;
-            if (!canGoOn || !passes(';')) {
+            if (!passes(';')) {
                 fail();
             } else if (premises == 0 && passes('p')) {
                 premises = someQuestions();

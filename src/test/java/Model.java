@@ -168,6 +168,8 @@ final class Model {
 
     /** Whether some agenda begins so: some short ends are tried, with all brackets closed. */
     static boolean canGoOn(String begin) {
+        // The document names the letters behind it as the faults (a second p or e, a ninth t), never this sign.
+        if (begin.endsWith(";") && isAgenda(begin.substring(0, begin.length() - 1))) return true;
         StringBuilder close = new StringBuilder();
         for (char c : begin.toCharArray()) {
             if (c == '(') close.insert(0, ')');
