@@ -536,12 +536,8 @@ public final class DoorBench {
             return fault;
         }
 
-        private boolean sees(int sign) {
-            return fault < 0 && at < length && bytes[at] == sign;
-        }
-
         private boolean passes(int sign) {
-            if (!sees(sign)) return false;
+            if (fault >= 0 || at >= length || bytes[at] != sign) return false;
             at++;
             return true;
         }
@@ -555,20 +551,15 @@ public final class DoorBench {
             if (fault < 0) fault = at;
         }
 
-        private int letterHere() {
-            int letter = fault < 0 && at < length ? bytes[at] - 'a' : -1;
-            return letter < MOST_QUESTIONS ? letter : -1;
-        }
-
         private int questionHere() {
-            int letter = letterHere();
-            return letter < 0 ? -1 : numbers[letter];
+            int letter = fault < 0 && at < length ? bytes[at] - 'a' : -1;
+            return letter < 0 || letter >= MOST_QUESTIONS ? -1 : numbers[letter];
         }
 
         private void nameQuestions() {
-            for (int i = 0; i < MOST_QUESTIONS; i++) {
-                int letter = letterHere();
-                if (letter < 0 || numbers[letter] >= 0) break;
+            for (int i = 0; i < MOST_QUESTIONS && fault < 0 && at < length; i++) {
+                int letter = bytes[at] - 'a';
+                if (letter < 0 || letter >= MOST_QUESTIONS || numbers[letter] >= 0) break;
                 numbers[letter] = questions;
                 questions++;
                 at++;
@@ -1445,18 +1436,13 @@ public final class DoorBench {
             int many = 0, total = trial.sitFirst(n);
             Arrays.fill(remembered, -1);
             for (int b = 0; b < total; b++) {
-                if (someTwists(trial, remembered)) many++;
+                int decided = recall(trial, trial.rank(), remembered);
+                boolean some = false;
+                for (int j = 0; j < trial.judges && !some; j++) some = twists(trial, j, decided, remembered);
+                if (some) many++;
                 trial.sitNext();
             }
             return many;
-        }
-
-        private boolean someTwists(Bench trial, int[] remembered) {
-            int decided = recall(trial, trial.rank(), remembered);
-            for (int j = 0; j < trial.judges; j++) {
-                if (twists(trial, j, decided, remembered)) return true;
-            }
-            return false;
         }
 
         private boolean twists(Bench trial, int judge, int decided, int[] remembered) {

@@ -34,6 +34,7 @@ public final class PromisesTest {
         outcomeTurns();
         outcomeLeader();
         outcomeTies();
+        manySets();
         benches();
         unlawful();
         unlike();
@@ -43,6 +44,7 @@ public final class PromisesTest {
         breach();
         keeper();
         mend();
+        mendOfFour();
         orders();
         act();
         trace();
@@ -979,6 +981,86 @@ public final class PromisesTest {
         dueMend(y, 0, 3, 2, 5, 1);
         // d stays; both others must go.
         dueMend(y, 1, 3, 2, 3, 1);
+    }
+
+    private static void mendOfFour() {
+        promise = 29;
+        String all = "{a,b,c,d}";
+        DoorBench x = with("q abcd;t 3" + all + ";t !4" + all, "q abcd;t 1" + all + ";t !2" + all,
+            "q abcde;t 3" + all + ";t a&b&c&d|(e=c&d);t !5{a,b,c,d,e};t 4" + all + ">e",
+            "q abc;t c=a&b;t c=a&b;t c=a&b;t c=a&b;t c=a&b;t c=a&b;t c=a&b;t c=a&b",
+            "q abcdefgh;t a&b&c&d&e;t h=f&g", "q abcdefghij;t 9{a,b,c,d,e,f,g,h,i,j};t !5{a,b,c,d,e,f,g,h,i}|j");
+        // Three of four say each yes, and all yes is barred; without the other tie it has 15 sets.
+        dueMend(x, 0, 4, 1, 2, 1);
+        dueMend(x, 0, 2, 0, 0, 1);
+        // Three of four say each no.
+        dueMend(x, 1, 4, 1, 1, 1);
+        // 7, 11, 29, 30: a to d are yes and e is open, so 15 and 31 help each alone; of three they are both reached.
+        dueMend(x, 2, 4, 1, 4, 2);
+        dueMend(x, 2, 3, 2, 12, 1);
+        dueMend(x, 2, 5, 2, 12, 1);
+        dueMend(x, 3, 5, 8, 255, 1);
+        dueMend(x, 4, 3, 1, 2, 1);
+        // Heads of four leave h open where f and g are both yes.
+        dueMend(x, 4, 4, 0, 0, 1);
+        // All yes, or one of a to i no: all yes is the majority of each three, and of each four.
+        due("ten sets", 10, x.of(5, 4));
+        dueMend(x, 5, 3, 0, 0, 1);
+        dueMend(x, 5, 4, 0, 0, 1);
+    }
+
+    /** More than 64 lawful sets, and questions behind the sixth. */
+    private static void manySets() {
+        promise = 20;
+        DoorBench x = with("q abcdefg;t a|b;e fg;p ab", "q abcdefghij;t !(f&i);t !(g&j);e ij;p fg");
+        allKinds(x, 5, 0);
+        due("lawful", 96, x.of(0, 4));
+        due("lawful", 576, x.of(1, 4));
+        due("stands", 0, x.stands(0, 0, 3));
+        due("forced a by no b", 1, x.forced(0, 0, 2, 0));
+        due("forced g", NOT, x.forced(0, 0, 2, 6));
+        due("forced no i by f", 0, x.forced(1, 32, 0, 8));
+        due("why", (1 + 2) * 1024, x.why(0, 0, 127));
+        // All no but a or b: a has less against it.
+        x.judge(0, 2, 1, 126);
+        x.judge(0, 3, 2, 125);
+        x.judge(0, 1, 64, 0);
+        x.judge(0, 5, 0, 1);
+        x.judge(0, 4, 0, 2);
+        dueOutcome(x, 1, 0, 0, 127);
+        dueOutcome(x, 3, 0, 2, 125);
+        dueOutcome(x, 4, 0, 2, 125);
+        // f, g, a, b ..: no, no, no, and b is forced.
+        dueOutcome(x, 5, 0, 2, 125);
+        due("near", 1, x.nearest(0, -1));
+        due("near", 2, x.nearest(0, 0));
+        // f and i yes, g and j yes: i leads by more than f, g by more than j.
+        x.judge(1, 3, 32 + 64, 256);
+        x.judge(1, 4, 256, 0);
+        x.judge(1, 5, 512, 0);
+        x.judge(1, 9, 32, 0);
+        x.judge(1, 8, 256, 32);
+        x.judge(1, 2, 64, 512);
+        x.judge(1, 2, 64, 0);
+        due("for f", 12, x.votes(1, 5, 0));
+        due("against f", 8, x.votes(1, 5, 1));
+        due("for i", 12, x.votes(1, 8, 0));
+        due("against i", 3, x.votes(1, 8, 1));
+        due("for g", 7, x.votes(1, 6, 0));
+        due("for j less against", 3, x.votes(1, 9, 0) - x.votes(1, 9, 1));
+        due("heads", 32 + 64 + 256 + 512, x.outcome(1, 1, 0));
+        due("heads break", 3, x.outcome(1, 1, 3));
+        due("premises", 32 + 64, x.outcome(2, 1, 0));
+        due("premises", 256 + 512, x.outcome(2, 1, 1));
+        due("ends", 256 + 512, x.outcome(3, 1, 0));
+        due("near", 64 + 256, x.outcome(4, 1, 0));
+        due("turns from f", 32 + 64, x.outcome(5, 1, 0));
+        // a to e and h are free.
+        due("how many are near", 64, x.nearest(1, -1));
+        due("one of them", 64 + 256 + 31, x.nearest(1, 31));
+        due("the last of them", 64 + 256 + 128 + 31, x.nearest(1, 63));
+        due("leader", 32 + 64, x.outcome(7, 1, 0));
+        due("leader", 256 + 512, x.outcome(7, 1, 1));
     }
 
     private static void orders() {
