@@ -673,10 +673,11 @@ public final class DoorBench {
             int blocks = questions > 6 ? 1 << questions - 6 : 1;
             long whole = questions < 6 ? (1L << (1 << questions)) - 1 : -1L;
             long[] keeping = new long[ties * blocks];
-            for (block = 0; block < blocks; block++) {
+            for (int b = 0; b < blocks; b++) {
+                block = b;
                 for (int t = 0; t < ties; t++) {
                     at = tieStarts[t];
-                    keeping[t * blocks + block] = tie(0) & whole;
+                    keeping[t * blocks + b] = tie(0) & whole;
                 }
             }
             return new Agenda(questions, premises, ends, ties, keeping);
@@ -1236,8 +1237,12 @@ public final class DoorBench {
             return rest % many;
         }
 
-        void sitRow(int row) {
+        private void numberAll(int row) {
             for (int j = 0; j < judges; j++) numbers[j] = numberIn(row, j);
+        }
+
+        void sitRow(int row) {
+            numberAll(row);
             settle();
         }
 
@@ -1268,9 +1273,10 @@ public final class DoorBench {
 
         private int rowInOrder(int row) {
             int many = agenda.sets.length, sum = 0;
+            numberAll(row);
             for (int number = 0; number < many; number++) {
                 for (int j = 0; j < judges; j++) {
-                    if (numberIn(row, j) == number) sum = sum * many + number;
+                    if (numbers[j] == number) sum = sum * many + number;
                 }
             }
             return sum;
@@ -1279,8 +1285,9 @@ public final class DoorBench {
         private int firstNotOwn(int[] outcomes, int rows) {
             Arrays.fill(before, 0);
             for (int r = 0; r < rows; r++) {
+                numberAll(r);
                 for (int q = 0; q < agenda.questions; q++) {
-                    int key = q << MOST_ROW_SEATS | whoSaysYes(r, q);
+                    int key = q << MOST_ROW_SEATS | whoSaysYes(q);
                     int answer = 1 + (outcomes[r] >> q & 1) + 2 * (outcomes[r] >> q + SHIFT & 1);
                     if (before[key] != 0 && before[key] != answer) return r;
                     before[key] = answer;
@@ -1289,9 +1296,9 @@ public final class DoorBench {
             return NOT;
         }
 
-        private int whoSaysYes(int row, int question) {
+        private int whoSaysYes(int question) {
             int who = 0;
-            for (int j = 0; j < judges; j++) who |= (agenda.sets[numberIn(row, j)] >> question & 1) << j;
+            for (int j = 0; j < judges; j++) who |= (agenda.sets[numbers[j]] >> question & 1) << j;
             return who;
         }
 
@@ -1501,12 +1508,10 @@ public final class DoorBench {
             super(kind, number, ran, 0, 0);
         }
 
-        @Override
         int decide(Bench bench) {
             return bench.byHeads();
         }
 
-        @Override
         int counts(int x) {
             note(20);
             return super.counts(x) - 1;
@@ -1518,7 +1523,6 @@ public final class DoorBench {
             super(kind, number, ran);
         }
 
-        @Override
         int decide(Bench bench) {
             int premises = Agenda.both(bench.agenda.premises);
             int told = bench.byHeads() & premises;
@@ -1527,7 +1531,6 @@ public final class DoorBench {
             return implied < 0 ? told : told | implied & ~premises;
         }
 
-        @Override
         int weighs(int x) {
             note(30);
             return super.weighs(x) + counts(2);
@@ -1539,7 +1542,6 @@ public final class DoorBench {
             super(kind, number, ran);
         }
 
-        @Override
         int decide(Bench bench) {
             int ends = Agenda.both(bench.agenda.ends);
             int told = bench.byHeads() & ends;
@@ -1548,7 +1550,6 @@ public final class DoorBench {
             return nearest < 0 ? told : told | bench.agenda.answersOf(nearest) & ~ends;
         }
 
-        @Override
         int binds(int x) {
             note(40);
             return super.binds(x) * 3;
@@ -1560,12 +1561,10 @@ public final class DoorBench {
             super(kind, number, ran, 0, 0);
         }
 
-        @Override
         int decide(Bench bench) {
             return bench.agenda.answersOf(Math.max(bench.nearestWith(0), 0));
         }
 
-        @Override
         int counts(int x) {
             note(50);
             return super.counts(x) ^ 5;
@@ -1577,7 +1576,6 @@ public final class DoorBench {
             super(kind, number, ran, shift, judge);
         }
 
-        @Override
         int decide(Bench bench) {
             bench.orderFrom(shift);
             return bench.inTurns(openYes(bench));
@@ -1588,13 +1586,11 @@ public final class DoorBench {
             return 0;
         }
 
-        @Override
         int weighs(int x) {
             note(60);
             return -super.weighs(x);
         }
 
-        @Override
         int tells(int x) {
             note(61);
             return super.tells(x) + shift;
@@ -1606,25 +1602,21 @@ public final class DoorBench {
             super(kind, number, ran, shift, judge);
         }
 
-        @Override
         int openYes(Bench bench) {
             return bench.hasJudge(judge) ? bench.yes[judge] : 0;
         }
 
-        @Override
         int placeOf(Bench trial, int rank) {
             // An odd number of judges leaves nothing open: then the chair isn't asked.
             boolean isAsked = judge < trial.judges && judge < trial.numbers.length && trial.judges % 2 == 0;
             return isAsked ? rank * trial.agenda.sets.length + trial.numbers[judge] : rank;
         }
 
-        @Override
         int binds(int x) {
             note(70);
             return super.binds(x + 1);
         }
 
-        @Override
         int weighs(int x) {
             note(71);
             return super.weighs(x) - judge;
@@ -1636,7 +1628,6 @@ public final class DoorBench {
             super(kind, number, ran, shift, judge);
         }
 
-        @Override
         int decide(Bench bench) {
             if (!bench.hasJudge(judge)) return 0;
             int told = bench.yes[judge] | bench.no[judge] << SHIFT;
@@ -1644,12 +1635,10 @@ public final class DoorBench {
             return implied < 0 ? told : implied;
         }
 
-        @Override
         int placeOf(Bench trial, int rank) {
             return judge < trial.judges && judge < trial.numbers.length ? trial.numbers[judge] : 0;
         }
 
-        @Override
         int tells(int x) {
             note(80);
             return super.tells(x) * 2 - super.binds(x);

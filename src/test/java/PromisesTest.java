@@ -164,6 +164,8 @@ public final class PromisesTest {
         dueAgenda("q a;t", -105);
         dueAgenda("q a;t ", -106);
         dueAgenda("q a;t b", -106);
+        dueAgenda("q a;t k", -106);
+        dueAgenda("q a;t `", -106);
         dueAgenda("q a;t a;", -108);
         dueAgenda("q ab;t a b", -108);
         dueAgenda("q ab;t ab", -108);
@@ -214,6 +216,7 @@ public final class PromisesTest {
         dueAgenda("q a;p", -105);
         dueAgenda("q a;p ", -106);
         dueAgenda("q a;p b", -106);
+        dueAgenda("q a;p k", -106);
         dueAgenda("q a;p aa", -107);
         dueAgenda("q a;p a;p a", -108);
         dueAgenda("q a;e a;e a", -108);
@@ -584,6 +587,7 @@ public final class PromisesTest {
         for (int way = 3; way < 20; way++) due("way", way, x.way(way % 5, -1, 77));
         due("the 21st", FULL, x.way(0, 0, 0));
         due("the 21st, wrong", BAD, x.way(6, 0, 9));
+        due("ofWay", BAD, x.ofWay(20, 0));
         due("count", 20, x.count(1));
     }
 
@@ -1003,6 +1007,9 @@ public final class PromisesTest {
         dueMend(x, 4, 3, 1, 2, 1);
         // Heads of four leave h open where f and g are both yes.
         dueMend(x, 4, 4, 0, 0, 1);
+        // Two ties that bar 15 and one that bars 31: the one is fewer, though its bits are more.
+        DoorBench y = with("q abcde;t 4" + all + ">e;t 4" + all + ">e;t 3" + all + ";t a&b&c&d|(e=c&d);t !5{a,b,c,d,e}");
+        dueMend(y, 0, 4, 1, 16, 1);
         // All yes, or one of a to i no: all yes is the majority of each three, and of each four.
         due("ten sets", 10, x.of(5, 4));
         dueMend(x, 5, 3, 0, 0, 1);
