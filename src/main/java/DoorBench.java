@@ -543,7 +543,12 @@ public final class DoorBench {
         }
 
         private void expect(int sign) {
-            if (!passes(sign)) fail();
+            if (fault >= 0) return;
+            if (at < length && bytes[at] == sign) {
+                at++;
+            } else {
+                fault = at;
+            }
         }
 
         /** Only the first fault counts: what comes behind it isn't read any more. */
@@ -597,16 +602,17 @@ public final class DoorBench {
             return some;
         }
 
-        /** T: in which sets of the block it holds; open: how many of ( { ! are open around it. */
+        /** T and I at once: in which sets of the block it holds; open: how many of ( { ! are open around it. */
         private long tie(int open) {
-            long value = condition(open);
-            for (int i = 0; i < LONGEST_TAPE && passes('='); i++) value = ~(value ^ condition(open));
+            long value = -1L;
+            for (int i = 0; i < LONGEST_TAPE; i++) {
+                long condition = either(open);
+                if (passes('>')) condition = ~condition | either(open);
+                // What holds everywhere is exactly so with the first one where that holds.
+                value = ~(value ^ condition);
+                if (!passes('=')) break;
+            }
             return value;
-        }
-
-        private long condition(int open) {
-            long value = either(open);
-            return passes('>') ? ~value | either(open) : value;
         }
 
         /** O and A at once: all since the latest | in one word, what stands ahead of that in another. */
