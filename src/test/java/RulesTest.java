@@ -102,8 +102,11 @@ public final class RulesTest {
 
     private static void wildCalls() {
         Random random = new Random(39);
+        Method[] methods = Arrays.stream(DoorBench.class.getDeclaredMethods())
+            .filter(m -> Modifier.isPublic(m.getModifiers())).toArray(Method[]::new);
+        Arrays.sort(methods, (a, b) -> a.toString().compareTo(b.toString()));
         String[] texts = {"q abc;p ab;e c;t c=a&b", "q abcdefghij;t a;t j>b", "q a;t (a", "q ab;t 3{a,b}", "q abcd;t 1{a,b,c}"};
-        for (int run = 0; run < 150; run++) {
+        for (int run = 0; run < 600; run++) {
             DoorBench x = new DoorBench();
             for (int i = 0; i < 400; i++) {
                 if (i % 50 == 0) {
@@ -111,16 +114,12 @@ public final class RulesTest {
                     for (char c : text.toCharArray()) x.feed(1, c);
                     x.agenda();
                 }
-                wildCall(x, random);
+                wildCall(x, methods[random.nextInt(methods.length)], random);
             }
         }
     }
 
-    private static void wildCall(DoorBench x, Random random) {
-        Method[] methods = DoorBench.class.getMethods();
-        Arrays.sort(methods, (a, b) -> a.toString().compareTo(b.toString()));
-        Method m = methods[random.nextInt(methods.length)];
-        if (m.getDeclaringClass() != DoorBench.class) return;
+    private static void wildCall(DoorBench x, Method m, Random random) {
         Object[] given = new Object[m.getParameterCount()];
         for (int i = 0; i < given.length; i++) {
             int v = wild(random);
