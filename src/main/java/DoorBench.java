@@ -1104,6 +1104,7 @@ public final class DoorBench {
 
         void orderFrom(int shift) {
             int questions = agenda.questions;
+            if (questions < 1) return;
             for (int i = 0; i < questions; i++) order[i] = (shift + i) % questions;
         }
 

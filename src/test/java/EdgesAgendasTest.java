@@ -289,6 +289,8 @@ public final class EdgesAgendasTest {
         Edges.dueAgenda("q a;t 9{a}", -1001);
         Edges.dueAgenda("q a;t 9{a,a,a,a,a,a,a,a}", -1001);
         Edges.due("nine of nine", 1, Edges.with("q a;t 9{a,a,a,a,a,a,a,a,a}").lawful(0, 0));
+        Edges.due("nine in nine", 3, Edges.with("q ab;t 9{a,a,a,a,a,a,a,a,9{b,b,b,b,b,b,b,b,1{b}}}").lawful(0, 0));
+        Edges.due("nine in nine, only that", 1, Edges.with("q ab;t 9{a,a,a,a,a,a,a,a,9{b,b,b,b,b,b,b,b,1{b}}}").of(0, 4));
         Edges.due("nine of seventy", 1, Edges.with("q a;t 9{a" + Edges.repeat(",a", 69) + "}").of(0, 4));
     }
 
@@ -375,6 +377,7 @@ public final class EdgesAgendasTest {
         Edges.due("one lawful set", 1, Edges.with(TEN + ";t !1" + ALL_TEN).of(0, 4));
         Edges.due("all are lawful", 1024, Edges.with(TEN).of(0, 4));
         Edges.dueAgenda("q a;t a&!a", -1001);
+        Edges.dueAgenda("q a;t !a;t a", -1003);
         Edges.dueAgenda("q a;t a;t a;t a;t a;t a;t a;t a;t a&!a", -1128);
         Edges.dueAgenda("q abcdefg;t a;t b;t c;t d;t e;t f;t g;t !7{a,b,c,d,e,f,g}", -1255);
         Edges.says("1: (fewest, then the least as bits)");

@@ -225,7 +225,7 @@ public final class EdgesAllTest {
 
     private static void twisted() {
         Edges.says("4: TWISTED of n: at how many of ALL BENCHES some JUDGE has a TWIST");
-        DoorBench x = Edges.with("q abcdef;p ab;e cd;t c=a&b;t d=c;t e|f", "q a;t a");
+        DoorBench x = Edges.with("q abcdef;p ab;e cd;t c=a&b;t d=c;t e|f", "q a;t a", "q bcda;p a;t b=c;t c=d;t a|b");
         x.way(2, 0, 0);
         x.way(4, 0, 0);
         x.way(6, 0, 3);
@@ -237,6 +237,9 @@ public final class EdgesAllTest {
             Edges.due("chair 3 of " + n, chair[n - 1], x.twisted(2, 0, n));
             Edges.due("one set only", 0, x.twisted(0, 1, n));
         }
+        // Lawful: no to a alone, yes to a alone, all. By a yes the others are open: three apart of all, which
+        // by the first set are one apart. So it is at the last bench, and by the first set alone.
+        Edges.due("the last bench, by the first set", 1, x.twisted(0, 2, 1));
     }
 
     // ---- what 27 and 28 share
@@ -319,6 +322,14 @@ public final class EdgesAllTest {
         // All no to a and b, yes to c and no to d, is row 4; its d is open, and no in row 0.
         Edges.due("premises, own of one", 4, x.breach(2, 0, 1, 1));
         Edges.due("heads, own", Edges.NOT, x.breach(1, 0, 3, 1));
+        DoorBench y = Edges.with("q ab;p a;t b>a", "q ab;p a;t a>b", "q ba;p a;t a|b");
+        y.way(2, 0, 0);
+        // Sets 0, 1, 3: no to b is no at row 0, and open at row 1.
+        Edges.due("no, then open", 1, y.breach(0, 0, 1, 1));
+        // Sets 0, 2, 3: yes to b is open at row 1, and yes at row 2.
+        Edges.due("open, then yes", 2, y.breach(0, 1, 1, 1));
+        // Sets b, a, both: yes to b is yes at row 0, and open at row 2.
+        Edges.due("yes, then open", 2, y.breach(0, 2, 1, 1));
         Edges.says("5: of 4: the JUDGE");
         Edges.due("heads of one: judge 0", 0, x.breach(1, 0, 1, 4));
         Edges.due("leader 1 of one: none such", Edges.NOT, x.breach(7, 0, 1, 4));

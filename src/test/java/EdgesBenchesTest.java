@@ -457,6 +457,12 @@ public final class EdgesBenchesTest {
         dueOutcome("one for j", x, 4, 0, 512, 511);
         x.judge(0, 1, 0, 512);
         dueOutcome("even on j", x, 4, 0, 0, 1023);
+        // a leans to yes by 1, b to no by 2: together they are no; the least set is one like any other.
+        DoorBench y = tenWays(Edges.with("q ab;t a=b"));
+        y.judge(0, 1, 1, 0);
+        y.judge(0, 2, 0, 2);
+        dueOutcome("set 0 is the nearest", y, 4, 0, 0, 3);
+        dueOutcome("set 0 is the nearest, no ends", y, 3, 0, 0, 3);
         dueOutcome("810 apart from the other end", tenWays(nine(TEN, 1023, 0)), 4, 0, 1023, 0);
     }
 
