@@ -1,3 +1,5 @@
+import com.sun.management.ThreadMXBean;
+import java.lang.management.ManagementFactory;
 import java.lang.reflect.Field;
 import java.lang.reflect.Method;
 import java.lang.reflect.Modifier;
@@ -33,6 +35,7 @@ public final class RulesTest {
         face();
         source();
         wildCalls();
+        room();
         System.out.println(wrong == 0 ? "the face and the rules are kept" : wrong + " rules are broken");
         if (wrong != 0) System.exit(1);
     }
@@ -115,6 +118,51 @@ public final class RulesTest {
                     x.agenda();
                 }
                 wildCall(x, methods[random.nextInt(methods.length)], random);
+            }
+        }
+    }
+
+    /**
+     * Rule 12: what a run makes is counted. Some 600,000 objects of 7.3 million elements are the room of a
+     * run; a run of 512 calls that makes as much as it can stays under a fiftieth of that, at four bytes each.
+     */
+    private static void room() {
+        ThreadMXBean threads = (ThreadMXBean) ManagementFactory.getThreadMXBean();
+        if (!threads.isThreadAllocatedMemorySupported() || !threads.isThreadAllocatedMemoryEnabled()) return;
+        dearRun();
+        long before = threads.getThreadAllocatedBytes(Thread.currentThread().getId());
+        dearRun();
+        long made = threads.getThreadAllocatedBytes(Thread.currentThread().getId()) - before;
+        holds("a run's room: " + made + " bytes", made < 584_000);
+    }
+
+    /** 512 calls: eight agendas, four of them with all 1024 sets, all ways, then all that goes through benches. */
+    private static void dearRun() {
+        DoorBench x = new DoorBench();
+        int calls = 0;
+        for (int a = 0; a < 8; a++) {
+            String text = a < 4 ? "q abcdefghij" : "q abc;t 1{a,b,c};t !(a&b&c)";
+            for (int i = 0; i < text.length(); i += 4) {
+                int n = Math.min(4, text.length() - i), v = 0;
+                for (int k = 0; k < n; k++) v |= text.charAt(i + k) << 8 * k;
+                x.feed(n, v);
+                calls++;
+            }
+            x.agenda();
+            x.judge(a, 1, 1, 6);
+            calls += 2;
+        }
+        for (int w = 0; w < 20; w++) x.way(w % 8, w % 10, w % 9);
+        for (calls += 20; calls < 512; calls++) {
+            int w = calls % 20, a = 4 + calls % 4;
+            switch (calls % 7) {
+                case 0: x.twisted(w, a, 5); break;
+                case 1: x.unlike(w, 1, a, 5, 0); break;
+                case 2: x.breach(w, a, 3, calls % 5); break;
+                case 3: x.keeper(a, 3, 31); break;
+                case 4: x.mend(a, 5, 0); break;
+                case 5: x.twist(w, a, 0); break;
+                default: x.act(w, 3, calls); break;
             }
         }
     }
